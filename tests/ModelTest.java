@@ -74,17 +74,14 @@ public final class ModelTest {
                 tellFamily();
             } else if (lot.nextInt(40) == 0) {
                 tellTrueRow();
+            } else if (lot.nextInt(40) == 0) {
+                changeAndTakeBack();
             } else {
-                String[] call = CALLS[lot.nextInt(CALLS.length)].split(" ");
-                String kinds = call.length > 1 ? call[1] : "";
-                int[] numbers = new int[kinds.length()];
-                for (int k = 0; k < numbers.length; k++) {
-                    numbers[k] = number(kinds.charAt(k));
-                }
+                String call = CALLS[lot.nextInt(CALLS.length)];
                 // Rarely, lest the object be left as small as an image of its first hours.
-                boolean rare = "restore passes clear judge comes dies".contains(call[0]);
+                boolean rare = "restore passes clear judge comes dies".contains(call.split(" ")[0]);
                 if (!rare || lot.nextInt(3) == 0) {
-                    call(call[0], numbers);
+                    byLot(call);
                 }
             }
         }
@@ -97,6 +94,15 @@ public final class ModelTest {
                 call("dead", p, what);
             }
         }
+    }
+
+    private void byLot(String call) throws Exception {
+        String[] parts = call.split(" ");
+        int[] numbers = new int[parts.length > 1 ? parts[1].length() : 0];
+        for (int i = 0; i < numbers.length; i++) {
+            numbers[i] = number(parts[1].charAt(i));
+        }
+        call(parts[0], numbers);
     }
 
     /** Some of PEOPLE and DEAD, some HOURS OPEN, to begin with. */
@@ -189,6 +195,17 @@ public final class ModelTest {
         call("row", 3);
         call("sham", one);
         call("judge");
+    }
+
+    private void changeAndTakeBack() throws Exception {
+        String[] changes = {"open ph", "shut p", "kin pd", "leans dv"};
+        for (int i = lot.nextInt(14); i > 0; i--) {
+            byLot(changes[lot.nextInt(4)]);
+        }
+        for (int i = lot.nextInt(11); i > 0; i--) {
+            call("back");
+            call("all");
+        }
     }
 
     private int number(char kind) {

@@ -36,6 +36,9 @@ public final class PromiseTest {
             int statements = family.length() - family.replace(";", "").length();
             due(tell(x, family), statements);
         }
+        // A FAMILY with a FAULT late in it leaves no trace, not in what-ifs either.
+        String faulty = x.count(0) > 0 ? "s0;k09;k08;c00023;p99;" : "p00;s0;k09;p99;";
+        due(tell(x, faulty), 4 - 2000 - faulty.length());
         return x;
     }
 
@@ -371,6 +374,41 @@ public final class PromiseTest {
         }
         due(x.back(), -3);
         due(x.person(0, 1), 7);
+        // More than eight of all sorts: the latest eight come back, each as it was.
+        AcrossTheGap y = of("p00;p00;p00;d000;d010;");
+        due(y.open(2, 8), 1);
+        due(y.shut(2), 1);
+        due(y.kin(2, 1), 1);
+        due(y.leans(1, 5), 1);
+        due(y.open(1, 7), 1);
+        due(y.shut(1), 1);
+        due(y.kin(1, 1), 1);
+        due(y.leans(0, 6), 0);
+        due(y.open(0, 9), 1);
+        due(y.shut(0), 1);
+        due(y.kin(0, 0), 1);
+        due(y.back(), 7);
+        due(y.person(0, 0), 0);
+        due(y.back(), 6);
+        due(y.person(0, 2), 0);
+        due(y.back(), 5);
+        due(y.person(0, 1), 0);
+        due(y.dead(0, 1), 6);
+        due(y.back(), 4);
+        due(y.dead(0, 1), 0);
+        due(y.back(), 3);
+        due(y.person(1, 0), 0);
+        due(y.back(), 2);
+        due(y.person(1, 2), 0);
+        due(y.back(), 1);
+        due(y.person(1, 1), 0);
+        due(y.dead(1, 1), 5);
+        due(y.back(), 0);
+        due(y.dead(1, 1), 1);
+        due(y.back(), -3);
+        due(y.person(2, 0), 2);
+        due(y.person(2, 1), 256);
+        due(y.person(2, 2), 1);
         // What leaves none, and what, refused, leaves all.
         x.shut(0);
         due(x.comes(-1), -4);
@@ -577,6 +615,9 @@ public final class PromiseTest {
         due(x.two(1), 2);
         due(x.two(2), -2);
         due(x.two(-1), -2);
+        AcrossTheGap early = of("p03;p00;d000;d300;o00003;");
+        due(early.two(0), 0);
+        due(early.two(1), 2);
         AcrossTheGap apart = of("p01;p02;d000;d310;o00408;o10408;");
         due(apart.two(0), -9);
         due(apart.two(1), 0);
@@ -646,6 +687,10 @@ public final class PromiseTest {
         due(x.soonest(-1, 0), -1);
         due(x.soonest(0, 10), -1);
         due(x.soonest(0, -1), -1);
+        // 0's DEAD keeps his mouth but in HOUR 23, when it has another: HEARD behind the last.
+        AcrossTheGap last = of("p03;p00;p01;p00;d020;d001;o22323;");
+        due(last.heard(1, 1), -9);
+        due(last.soonest(1, 1), 0);
         // As soon as now is not sooner.
         AcrossTheGap same = of("p01;p00;d001;o00000;");
         due(same.soonest(1, 1), -9);
@@ -687,6 +732,11 @@ public final class PromiseTest {
         AcrossTheGap s5 = of("p01;p01;p00;p00;p00;d001;s0;k21;o00000;o10000;");
         due(s5.all(), 2);
         due(s5.seat(), 1);
+        AcrossTheGap s6 = of("p01;p01;p00;p00;p00;d001;s1;k41;o00000;o10000;");
+        due(s6.all(), 2);
+        due(s6.seat(), 1);
+        // Just where 2, who KNOWS it, is the first by FIGURE do both others hear.
+        due(of("p01;p01;p01;d011;k21;o00000;o10000;o20000;").seat(), 12);
     }
 
     private static void canShamWho() {
@@ -717,6 +767,17 @@ public final class PromiseTest {
         due(x.sham(1), -9);
         rowOf(x, 0);
         due(x.sham(0), 0);
+        rowOf(x, 11);
+        due(x.sham(0), -3);
+        x.turned();
+        rowOf(x, 10);
+        x.row(12);
+        due(x.clear(), 2);
+        due(x.row(10), 1);
+        due(x.sham(0), -9);
+        rowOf(x, 10, 10, 10, 10, 1, 1);
+        x.turned();
+        due(x.sham(0), -9);
         rowOf(x, 10, 11);
         due(x.sham(0), -3);
         due(x.sham(3), -1);
@@ -742,6 +803,7 @@ public final class PromiseTest {
         due(new AcrossTheGap().questions(), 0);
         due(of("d003;d103;d205;d303;d505;d009;").questions(), bits(0, 2, 5));
         due(of("d003;d003;").questions(), 1);
+        due(of("d000;d001;d000;").questions(), 3);
         promise(32);
         AcrossTheGap x = of("p63;p63;d300;d300;d310;d311;d000;o00023;o10015;");
         // In even HOURS 0 and 1 (through 0), in odd ones 2 and 3 (through 1, to 15; through 0 behind).
@@ -749,6 +811,8 @@ public final class PromiseTest {
         due(x.quarrels(1), bits(0, 2));
         due(x.quarrels(2), -2);
         due(x.quarrels(-1), -2);
+        due(of("p01;p02;d000;d300;o00000;o10000;").quarrels(0), 0);
+        due(of("p01;p02;d000;d300;o00000;o10000;").quarrels(1), 0);
         AcrossTheGap y = of("p02;p04;d100;d300;d310;o00023;o10023;");
         due(y.quarrels(0), 0);
         due(y.quarrels(1), 0);
@@ -821,6 +885,12 @@ public final class PromiseTest {
         due(l.list(2, 1), 4);
         due(l.list(0, 0), 0);
         due(l.list(0, 1), -9);
+        l.learns(0, 2);
+        due(l.list(0, 0), 0);
+        due(l.list(0, 1), -9);
+        AcrossTheGap nought = of("p01;p00;d000;o00909;");
+        due(nought.list(1, 0), 1);
+        due(nought.list(1, 1), 10);
         due(l.list(3, 9), -1);
         due(l.list(-1, 0), -1);
         due(l.list(0, 2), -2);
@@ -896,6 +966,9 @@ public final class PromiseTest {
         n.open(0, 8);
         due(n.narrow(0, 0), 3);
         due(n.narrow(0, 1), 3);
+        AcrossTheGap nought = of("p01;p00;d001;o00002;");
+        due(nought.narrow(0, 0), 3);
+        due(nought.narrow(0, 1), 0);
         due(n.person(0, 1), bits(3, 6, 8));
         due(n.narrow(2, 9), -1);
         due(n.narrow(-1, 0), -1);
@@ -936,6 +1009,9 @@ public final class PromiseTest {
         due(t2.all(), 1);
         due(t2.turned(), 0);
         due(of("p01;p00;d401;o01111;").turned(), 1);
+        due(of("p01;p00;d401;o00000;").turned(), 1);
+        due(of("p01;p00;d001;o02323;").turned(), 1);
+        due(of("p01;p00;d001;").turned(), 0);
         promise(43);
         AcrossTheGap w = of("p01;p02;p04;p08;d000;d310;d120;d030;", "o00323;o10323;o20323;o30020;");
         // 0: 3 to 23; 1: odd HOURS of these; 2: even ones; 3: to 20. So 0 and 3 have 18 together.
@@ -1030,6 +1106,7 @@ public final class PromiseTest {
         due(of("p01;p02;p04;d001;d012;d022;o00000;o10000;o20000;").bridge(), 1);
         due(of("p01;p02;p04;d001;d012;d023;k11;o00000;o10000;o20000;").bridge(), 12);
         due(of("p01;p02;p04;d001;d012;d023;o00000;o10000;o20000;").bridge(), 1);
+        due(of("p01;p02;p04;d002;d011;d021;k12;o00000;o10000;o20000;").bridge(), 12);
         promise(50);
         AcrossTheGap h = of("p01;p00;d130;o00000;o00202;o00303;");
         due(h.heir(0), 0);
@@ -1054,6 +1131,7 @@ public final class PromiseTest {
         x.learns(2, 9);
         due(x.secret(), 512);
         due(of("p00;k05;").secret(), 0);
+        due(of("p00;p00;k03;").secret(), 8);
         promise(52);
         due(new AcrossTheGap().synod(), 0);
         due(of("p00;p00;").synod(), 0);
@@ -1090,8 +1168,10 @@ public final class PromiseTest {
         rowOf(y, 0, 0, 0, 0, 2, 1, 1);
         due(y.judge(), 5);
         due(y.count(6), 0);
-        rowOf(y, 3);
+        rowOf(y, 3, 3);
         due(y.judge(), 0);
+        rowOf(y, 0);
+        due(y.judge(), -9);
         rowOf(y, 0, 0, 0, 0, 2, 2, 0, 0, 0, 0, 0, 0, 0, 0, 0, 0, 0, 0, 0, 0, 0, 0, 0, 99);
         due(y.judge(), 23);
     }
@@ -1111,6 +1191,18 @@ public final class PromiseTest {
         AcrossTheGap g = of("p01;p00;d401;o00000;");
         due(g.lots(1, 0, 0), 1);
         due(g.lots(1, 0, 1), 0);
+        // Counted by another program: the DAYS whose greater DRAW for 0 is 12 or more.
+        due(g.lots(20, 2026, 0), 17);
+        due(g.lots(20, -5, 0), 14);
+        due(g.lots(20, MAX, 0), 16);
+        due(g.lots(20, MIN, 0), 14);
+        due(g.lots(5, 2026, 0), 4);
+        // And those with an even HOUR between the two: not 17 to 17, 11 to 11, 9 to 9.
+        AcrossTheGap even = of("p01;p00;d101;");
+        due(even.lots(20, 2026, 0), 20);
+        due(even.lots(20, -5, 0), 18);
+        due(even.lots(20, MAX, 0), 19);
+        due(even.lots(20, MIN, 0), 19);
         due(g.lots(0, 0, 9), -4);
         due(g.lots(MIN, 0, 0), -4);
         due(g.lots(21, 0, 9), -6);
@@ -1118,6 +1210,7 @@ public final class PromiseTest {
         due(g.lots(1, MIN, -1), -2);
         due(new AcrossTheGap().lots(3, 3, 0), 0);
         due(new AcrossTheGap().lots(3, 3, 1), 0);
+        due(of("p00;k00;").lots(3, 1, 1), 3);
         AcrossTheGap shut = of("p01;p00;d001;s0;k13;");
         due(shut.lots(5, 9, 0), 5);
         due(shut.lots(5, 9, 1), 0);

@@ -1158,12 +1158,10 @@ public final class AcrossTheGap {
             return true;
         }
 
-        private boolean turnOpen(int person, int hour) {
-            if (person < 0 || person >= people) {
-                return false;
+        private void turnOpen(int person, int hour) {
+            if (person >= 0 && person < people) {
+                openHours[person] ^= 1 << hour;
             }
-            openHours[person] ^= 1 << hour;
-            return true;
         }
 
         private boolean turnShut(int person) {
@@ -1174,12 +1172,10 @@ public final class AcrossTheGap {
             return true;
         }
 
-        private boolean turnKin(int person, int dead) {
-            if (person < 0 || person >= people) {
-                return false;
+        private void turnKin(int person, int dead) {
+            if (person >= 0 && person < people) {
+                kinOf[person] ^= 1 << dead;
             }
-            kinOf[person] ^= 1 << dead;
-            return true;
         }
 
         private boolean teach(int person, int fact) {
