@@ -2,59 +2,17 @@
  * Each promise by itself, with answers that were worked out by hand from the document:
  * ordinary calls, the edges that it names, and each refusal in its order.
  */
-public final class PromiseTest {
-    private static final int MIN = Integer.MIN_VALUE;
-    private static final int MAX = Integer.MAX_VALUE;
-    private static final long BIG = 4000000000000000000L;
-    private static int wrong = 0;
-    private static int promise = 0;
-    private static int row = 0;
-
-    private static void due(long got, long want) {
-        row++;
-        if (got != want) {
-            wrong++;
-            System.out.println("promise " + promise + ", row " + row + ": answered " + got + ", due is " + want);
-        }
-    }
-
+public final class PromiseTest extends Check {
     private static void promise(int number) {
-        promise = number;
-        row = 0;
-    }
-
-    private static int tell(AcrossTheGap x, String family) {
-        for (int i = 0; i < family.length(); i++) {
-            due(x.feed(family.charAt(i)), i + 1);
-        }
-        return x.family();
+        startAt("promise " + number);
     }
 
     private static AcrossTheGap of(String... families) {
-        AcrossTheGap x = new AcrossTheGap();
-        for (String family : families) {
-            int statements = family.length() - family.replace(";", "").length();
-            due(tell(x, family), statements);
-        }
+        AcrossTheGap x = told(families);
         // A FAMILY with a FAULT late in it leaves no trace, not in what-ifs either.
         String faulty = x.count(0) > 0 ? "s0;k09;k08;c00023;p99;" : "p00;s0;k09;p99;";
         due(tell(x, faulty), 4 - 2000 - faulty.length());
         return x;
-    }
-
-    private static int bits(int... places) {
-        int set = 0;
-        for (int place : places) {
-            set |= 1 << place;
-        }
-        return set;
-    }
-
-    private static void rowOf(AcrossTheGap x, int... numbers) {
-        x.clear();
-        for (int number : numbers) {
-            x.row(number);
-        }
     }
 
     /** Three at the table; a DEAD who tells FACT 1 speaks through 0 in HOURS 5 and 6. */
@@ -88,10 +46,7 @@ public final class PromiseTest {
         lots();
         images();
         counts();
-        System.out.println(wrong == 0 ? "PromiseTest: all answers are as due" : "PromiseTest: " + wrong + " wrong");
-        if (wrong != 0) {
-            System.exit(1);
-        }
+        end("PromiseTest");
     }
 
     private static void newObject() {
