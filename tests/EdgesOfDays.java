@@ -334,6 +334,7 @@ final class EdgesOfDays extends Check {
         due(first.list(1, 0), bits(9));
         due(first.list(1, 1), 1);
         due(told("p01;p00;d009;o02323;").list(1, 1), 24);
+        due(told("p01;p00;d000;o02323;").list(1, 1), 24);
         AcrossTheGap two = told("p03;p00;d001;d319;o00000;o02323;");
         due(two.list(1, 0), bits(1, 9));
         due(two.list(1, 1), 24);

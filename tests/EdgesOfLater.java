@@ -66,6 +66,41 @@ final class EdgesOfLater extends Check {
         due(x.back(), 0);
         due(x.dead(0, 1), 0);
         due(x.person(1, 2), 1);
+        // Each as it was, and nothing else with it.
+        AcrossTheGap all = told("p00;p00;d000;d050;");
+        due(all.open(1, 1), 1);
+        due(all.shut(1), 1);
+        due(all.kin(1, 0), 1);
+        due(all.leans(0, 1), 0);
+        for (int left = 3; left >= 0; left--) {
+            due(all.back(), left);
+            due(all.dead(0, 1), 0);
+            due(all.person(1, 0), left >= 3 ? 1 : 0);
+            due(all.person(1, 2), left >= 2 ? 1 : 0);
+            due(all.person(1, 1), left >= 1 ? 2 : 0);
+            due(all.person(0, 0) + all.person(0, 1) + all.person(0, 2), 0);
+            due(all.dead(1, 1), 5);
+        }
+        // Beyond eight those of all sorts go up by one.
+        for (int i = 0; i < 4; i++) {
+            due(all.open(0, i), 1);
+            due(all.leans(0, i + 1), i);
+            due(all.shut(1), i % 2 == 0 ? 1 : 0);
+        }
+        for (int i = 3; i >= 2; i--) {
+            due(all.back(), 3 * i - 2);
+            due(all.person(1, 2), i % 2 == 0 ? 0 : 1);
+            due(all.back(), 3 * i - 3);
+            due(all.dead(0, 1), i);
+            due(all.back(), 3 * i - 4);
+            due(all.person(0, 1), (1 << i) - 1);
+        }
+        due(all.back(), 1);
+        due(all.back(), 0);
+        due(all.back(), -3);
+        due(all.dead(0, 1), 1);
+        due(all.person(1, 2), 1);
+        due(all.person(0, 1), 3);
         about(14, "TAKEN BACK: how many can still be. -3 none.");
         due(x.back(), -3);
         due(new AcrossTheGap().back(), -3);
@@ -242,6 +277,7 @@ final class EdgesOfLater extends Check {
         due(told("p01;p02;d000;d010;o00011;o11223;").twin(), -9);
         due(told("p01;p02;d000;d010;o00012;o11223;").twin(), 1);
         due(told("p16;p32;d000;d000;d000;d000;d000;d000;o02323;o12323;").twin(), 45);
+        due(told("p02;p01;d000;d000;o00000;o10000;").twin(), 1);
         due(told("p03;p12;p48;d000;d300;d000;d300;d000;d300;o00023;o10023;o20023;").twin(), 2);
     }
 
@@ -275,6 +311,7 @@ final class EdgesOfLater extends Check {
         AcrossTheGap alone = told("p00;k09;");
         due(alone.keeper(0), 0);
         due(alone.keeper(1), 1);
+        due(told("p00;p00;p00;").keeper(0), 0);
         AcrossTheGap last = told("p00;p00;p00;p00;p00;p00;p01;d000;o60000;");
         due(last.keeper(0), 6);
         due(last.keeper(1), 0);
@@ -294,6 +331,12 @@ final class EdgesOfLater extends Check {
         due(all.openings(0, 1), 0);
         due(all.openings(1, 0), 0);
         due(all.openings(1, 1), -9);
+        AcrossTheGap even = told("p01;p00;d100;");
+        due(even.openings(0, 0), 12);
+        due(even.openings(0, 1), 0);
+        even.leans(0, 9);
+        due(even.openings(0, 0), 12);
+        due(even.openings(0, 1), 1);
         // In HOUR 23 alone 1 keeps FACT 0 off 0's mouth.
         AcrossTheGap last = told("p03;p01;p00;d010;d001;o00022;o12323;");
         due(last.openings(0, 0), 1);
@@ -389,6 +432,7 @@ final class EdgesOfLater extends Check {
         due(new AcrossTheGap().secret(), 0);
         due(told("p00;k00;k09;").secret(), 0);
         due(told("p00;k00;k09;p00;").secret(), bits(0, 9));
+        due(told("p00;p00;k10;k19;").secret(), bits(0, 9));
         due(told("p00;p00;k00;k01;k02;k03;k04;k05;k06;k07;k08;k09;").secret(), 1023);
         due(told("p00;p00;k00;k10;").secret(), 0);
         due(told("p00;p00;p00;k00;k10;").secret(), 1);
@@ -421,6 +465,7 @@ final class EdgesOfLater extends Check {
         due(x.restore(), 0);
         tell(x, "p09;p00;p00;p00;p00;p00;p00;d000;d000;d000;d000;d000;d599;");
         tell(x, "s6;k69;o62323;");
+        due(x.turned(), 1);
         due(x.image(), 7);
         about("THE IMAGE: all that there is of I, but it, letters, the ROW, REFUSALS");
         x.shut(6);

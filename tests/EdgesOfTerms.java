@@ -263,6 +263,9 @@ final class EdgesOfTerms extends Check {
         AcrossTheGap next = told("p07;p07;p00;d300;d300;d300;o00000;o10000;");
         due(next.speak(0, 0), bits(0, 1));
         due(next.speak(1, 0), bits(2));
+        // Behind two nobody is a third.
+        AcrossTheGap third = told("p63;p00;d000;d300;d000;d100;d200;d500;o00000;");
+        due(third.speak(0, 0), bits(0, 1));
         // None but a QUARREL is a second; and he is so by KIN, OPEN and not SHUT alone.
         AcrossTheGap second = told("p63;p00;d000;d000;d100;d200;d400;d500;o01212;");
         due(second.speak(0, 12), 1);

@@ -149,5 +149,13 @@ final class EdgesOfWhatIfs extends Check {
         due(last.seat(), 56);
         due(last.person(6, 1), 3);
         due(last.person(5, 1), 0);
+        // KIN goes with him: in 3's seat 0 tells 2 and the one in his own, who do not know it.
+        due(told("p01;p00;p00;p00;d000;k10;o00000;").seat(), 3);
+        // SHUT, too: 0's DEAD speaks through 1 now, beside 2, who KNOWS it; through 0 he would tell 4.
+        AcrossTheGap shut = told("p01;p01;p00;p00;p00;d000;s0;k20;o00000;o10000;");
+        due(shut.all(), 2);
+        due(shut.seat(), 1);
+        // Changed with 1 or 2 he tells one who does not KNOW it, with 3 two, with 4 one again.
+        due(told("p01;p00;p00;p00;p00;p00;d000;k10;k50;o00000;").seat(), 3);
     }
 }

@@ -136,6 +136,13 @@ public final class FaceTest {
                 fault("made in a call: " + m.group().trim());
             }
         }
+        // Of the library's static functions just those that LANGUAGE.md lists.
+        Matcher call = Pattern.compile("\\b[A-Z][a-z]+\\.[a-z]\\w*(?=\\()").matcher(bare);
+        while (call.find()) {
+            if (!call.group().matches("Integer\\.bitCount|Math\\.(max|min)|System\\.arraycopy")) {
+                fault("a call of " + call.group());
+            }
+        }
         methodsAreShort(bare);
     }
 
