@@ -122,6 +122,13 @@ final class EdgesOfDays extends Check {
         due(told("p01;d009;o02323;").spoke(0), 1);
         // Told, though nobody hears it.
         due(told("p01;d009;o00023;").told(9, 0), 24);
+        // Those who come last are told of at once.
+        AcrossTheGap more = told("p07;p07;p00;d000;o00000;o10000;");
+        due(more.dies(3, 0, 7), 1);
+        due(more.told(7, 0), 1);
+        due(more.dies(0, 0, 8), 2);
+        due(more.told(8, 0), 1);
+        due(more.told(9, 0), 0);
         about(20, "SPOKE. -1.");
         due(x.spoke(6), -1);
         due(x.spoke(-1), -1);

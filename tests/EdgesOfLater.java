@@ -191,6 +191,35 @@ final class EdgesOfLater extends Check {
         due(oneADay().needed(), 0);
         due(told("p01;p00;d005;d005;o00000;").needed(), 1);
         due(told("p32;p00;d005;d005;d005;d005;d005;d005;o00000;").needed(), bits(5));
+        awayInMindAlone();
+    }
+
+    /** Whoever was away in mind, for whichever question, is there for the next one. */
+    private static void awayInMindAlone() {
+        about("(each alone, he is away)");
+        AcrossTheGap x = told("p03;p00;d300;d301;o00000;");
+        for (int i = 0; i < 3; i++) {
+            switch (i) {
+                case 0:
+                    due(x.needed(), bits(0, 1));
+                    break;
+                case 1:
+                    due(x.bridge(), 1);
+                    break;
+                default:
+                    due(x.quarrels(1), bits(0));
+                    break;
+            }
+            due(x.opening(0, 1), 2);
+            due(x.never(1, 0, 0), bits(0));
+            due(x.never(1, 1, 0), bits(0));
+            due(x.just(0, bits(1)), 0);
+            due(x.just(1, bits(1)), 0);
+            due(x.days(1), bits(0, 1));
+            due(x.key(), 2);
+            due(x.heir(1), 0);
+            due(x.all(), 2);
+        }
     }
 
     private static void loudest() {

@@ -6,6 +6,7 @@ final class EdgesOfWhatIfs extends Check {
         soonest();
         opening();
         seat();
+        askedFirst();
     }
 
     /**
@@ -155,7 +156,80 @@ final class EdgesOfWhatIfs extends Check {
         AcrossTheGap shut = told("p01;p01;p00;p00;p00;d000;s0;k20;o00000;o10000;");
         due(shut.all(), 2);
         due(shut.seat(), 1);
+        // In 4's seat 1 tells 3 and 5, if SHUT goes to 1's seat; in 5's he tells two, too.
+        AcrossTheGap farther = told("p00;p01;p00;p00;p01;p00;p00;d000;k00;k20;s4;", "o10000;o40000;");
+        due(farther.all(), 2);
+        due(farther.seat(), 14);
+        due(farther.person(4, 2), 1);
         // Changed with 1 or 2 he tells one who does not KNOW it, with 3 two, with 4 one again.
         due(told("p01;p00;p00;p00;p00;p00;d000;k10;k50;o00000;").seat(), 3);
+    }
+
+    /** Who came by calls: 0 and 1 are OPEN in HOUR 2, two speak through 0, the third through 1. */
+    private static AcrossTheGap called() {
+        AcrossTheGap x = new AcrossTheGap();
+        x.comes(7);
+        x.comes(7);
+        x.comes(0);
+        x.dies(0, 0, 0);
+        x.dies(3, 0, 1);
+        x.dies(3, 0, 2);
+        x.open(0, 2);
+        x.open(1, 2);
+        return x;
+    }
+
+    /** Each question is the first that its object is asked: none needs another ahead of it. */
+    private static void askedFirst() {
+        startAt("asked first");
+        due(called().all(), 6);
+        due(called().knows(2, 24), bits(0, 1, 2));
+        due(called().through(2, 2), 1);
+        due(called().speak(-1, 2), 3);
+        due(called().speak(0, 2), bits(0, 1));
+        due(called().two(0), 2);
+        due(called().heard(0, 2), 3);
+        due(called().spoke(1), 1);
+        due(called().told(2, 0), 1);
+        due(called().told(0, 1), 2);
+        due(called().never(2, 0, 0), bits(0, 1));
+        due(called().just(0, bits(1, 2)), 0);
+        due(called().soonest(2, 0), 0);
+        due(called().opening(0, 1), 6);
+        due(called().can(0, 1, 2), 1);
+        due(called().who(0, 1), bits(0, 1));
+        due(called().questions(), bits(0, 1, 2));
+        due(called().quarrels(0), 1);
+        due(called().quarrels(1), bits(1));
+        due(called().silent(0), 23);
+        due(called().colds(2, 0, 2, 0), 3);
+        due(called().colds(2, 0, 2, 1), 4);
+        due(called().list(0, 0), bits(2));
+        due(called().days(-1), 1);
+        due(called().needed(), bits(0, 1, 2));
+        due(called().loudest(1), 2);
+        due(called().narrow(0, 1), -9);
+        due(called().key(), 3);
+        due(called().half(), 3);
+        due(called().turned(), 2);
+        due(called().twin(), 1);
+        due(called().spreads(2, 2), 1);
+        due(called().keeper(1), 4);
+        due(called().openings(0, 0), 0);
+        due(called().dinner(12, 1), 0);
+        due(called().share(2, 1), 3);
+        due(called().bridge(), 1);
+        due(called().heir(0), 0);
+        due(called().secret(), bits(0, 1, 2));
+        due(called().synod(), bits(2));
+        due(called().passes(), 6);
+        AcrossTheGap two = new AcrossTheGap();
+        two.comes(1);
+        two.comes(1);
+        two.dies(0, 0, 0);
+        two.learns(1, 0);
+        two.open(0, 0);
+        two.open(1, 0);
+        due(two.seat(), 1);
     }
 }
