@@ -4,6 +4,7 @@ final class EdgesOfLater extends Check {
         eightTakenBack();
         noneLeft();
         days();
+        daysOneBehindTheOther();
         needed();
         loudest();
         narrow();
@@ -182,6 +183,35 @@ final class EdgesOfLater extends Check {
         due(told("p00;k09;").days(0), bits(9));
     }
 
+    /**
+     * One HOUR, five mouths, 1 to 5. For four DAYS five BRIDES hold all five, each at another one
+     * each DAY; behind these whoever is beside them knows their FACTS. Then the sixth speaks,
+     * through 1, 2, 3, 4, 5, a DAY each. No family with more DAYS was found.
+     */
+    private static AcrossTheGap nineDays() {
+        return told("p00;p55;p62;p47;p61;p59;p00;", "d234;d201;d230;d205;d202;d203;",
+                "o11515;o21515;o31515;o41515;o51515;");
+    }
+
+    private static void daysOneBehindTheOther() {
+        about("how many DAYS one behind the other change something of what all KNOW (from now, in mind)");
+        AcrossTheGap x = nineDays();
+        int[] more = {10, 10, 6, 5, 2, 2, 1, 1, 1};
+        int[] atTheEnd = {31, 47, 63, 63, 63, 61, 62};
+        for (int day = 0; day < 9; day++) {
+            due(x.days(-1), 9 - day);
+            for (int p = 0; p < 7; p++) {
+                due(x.days(p), atTheEnd[p]);
+            }
+            due(x.passes(), more[day]);
+        }
+        due(x.days(-1), 0);
+        for (int p = 0; p < 7; p++) {
+            due(x.days(p), atTheEnd[p]);
+        }
+        due(x.passes(), 0);
+    }
+
     private static void needed() {
         about("NEEDED: of DEAD those (bits) without whom (each alone, he is away) ALL would be less");
         about(37, "NEEDED (bits).");
@@ -321,6 +351,14 @@ final class EdgesOfLater extends Check {
         x.learns(1, 9);
         due(x.spreads(1, 9), 0);
         due(x.count(4), 1);
+        // The sixth BRIDE's FACT: behind the fifth DAY at those beside 1, behind the ninth at 6.
+        AcrossTheGap nine = nineDays();
+        int[] comes = {5, 6, 5, 6, 7, 8, 9};
+        for (int p = 0; p < 7; p++) {
+            due(nine.spreads(p, 3), comes[p]);
+        }
+        due(nine.spreads(0, 5), -9);
+        due(nine.count(4), 0);
         about(44, "SPREADS; -9. -1 either.");
         due(x.spreads(1, 10), -1);
         due(x.spreads(1, -1), -1);
